@@ -340,14 +340,14 @@ public final class PageTrie {
             return NONE;
         }
         left.goThrough(now.query);
-        return i < left.size ? left.row[i] : NOT_SO_MANY;
+        return i < left.size ? left.numberAt(i) : NOT_SO_MANY;
     }
 
     public int takeFound() {
         left.goThrough(now.query);
         int all = left.size;
         for (int i = 0; i < all; i++) {
-            int at = left.row[i];
+            int at = left.numberAt(i);
             now.trie.removeAt(at);
             left.closeGap(i + 1, at);
         }
@@ -360,7 +360,7 @@ public final class PageTrie {
         }
         left.goThrough(now.query);
         for (int i = 0; i < left.size; i++) {
-            int at = left.row[i];
+            int at = left.numberAt(i);
             now.trie.keys.setValue(at, changed(kind, now.trie.keys.valueOf(at), v));
         }
         return left.size;
@@ -379,11 +379,11 @@ public final class PageTrie {
             return NONE;
         }
         int bestWidth = 1;
-        int leastWeight = Integer.MAX_VALUE;
+        int leastWeight = NONE;
         for (int width = 1; width <= MOST_WIDTH; width++) {
             aside.putAllOf(now.trie.keys, width, now.trie.room);
             int weight = aside.weight();
-            if (weight < leastWeight) {
+            if (leastWeight == NONE || weight < leastWeight) {
                 leastWeight = weight;
                 bestWidth = width;
             }
@@ -732,22 +732,19 @@ public final class PageTrie {
         /** How many were done till one was refused. */
         int doOn(Trie trie) {
             for (int i = 0; i < size && i < MOST_ITEMS; i++) {
-                if (!isDone(trie, i)) {
+                boolean isDone;
+                if (kinds[i] == '+') {
+                    isDone = trie.insertKey(firsts[i], numbers[i]) != NO_ROOM_LEFT;
+                } else if (kinds[i] == '-') {
+                    isDone = trie.removeKey(firsts[i]) != NOT_THERE;
+                } else {
+                    isDone = trie.removeFromTo(firsts[i], lasts[i]) > 0;
+                }
+                if (!isDone) {
                     return i;
                 }
             }
             return size;
-        }
-
-        private boolean isDone(Trie trie, int i) {
-            switch (kinds[i]) {
-                case '+':
-                    return trie.insertKey(firsts[i], numbers[i]) != NO_ROOM_LEFT;
-                case '-':
-                    return trie.removeKey(firsts[i]) != NOT_THERE;
-                default:
-                    return trie.removeFromTo(firsts[i], lasts[i]) > 0;
-            }
         }
     }
 
@@ -859,7 +856,7 @@ public final class PageTrie {
     /** What a query leaves of all keys: their numbers, in the order in which it leaves them. */
     private static final class Found {
         private final Keys keys;
-        final int[] row;
+        private final int[] row;
         int size;
 
         Found(Keys keys) {
@@ -899,6 +896,10 @@ public final class PageTrie {
                 }
             }
             size = stay;
+        }
+
+        int numberAt(int i) {
+            return i >= 0 && i < size && i < MOST_KEYS ? row[i] : NONE;
         }
 
         /** Numbers from a place of the row on go down by one where the key of that number has gone. */
@@ -989,11 +990,11 @@ public final class PageTrie {
         }
 
         int lengthOf(int i) {
-            return has(i) ? lengths[i] : 0;
+            return i >= 0 && i < size && i < MOST_KEYS ? lengths[i] : 0;
         }
 
         int valueOf(int i) {
-            return has(i) ? values[i] : 0;
+            return i >= 0 && i < size && i < MOST_KEYS ? values[i] : 0;
         }
 
         void setValue(int i, int value) {
@@ -1003,7 +1004,8 @@ public final class PageTrie {
         }
 
         int byteOf(int i, int k) {
-            return has(i) && k >= 0 && k < KEY_BYTES ? bytes[i * KEY_BYTES + k] : 0;
+            boolean isIn = i >= 0 && i < size && i < MOST_KEYS && k >= 0 && k < KEY_BYTES;
+            return isIn ? bytes[i * KEY_BYTES + k] : 0;
         }
 
         void insertAt(int at, Key key, int value) {
@@ -1598,21 +1600,21 @@ public final class PageTrie {
 
         /** At each key begin as many layers as it goes deeper with the key behind it, the highest ahead. */
         boolean goTo(int number) {
+            boolean isThere = number == 0;
+            int left = number;
             start = 0;
             depth = 0;
-            int left = number;
-            while (left > 0 && start < trie.keys.size) {
-                int begun = trie.depthOf(start) - trie.sharedAt(start);
+            for (int i = 0; i < trie.keys.size && left > 0; i++) {
+                int begun = trie.depthOf(i) - trie.sharedAt(i);
                 if (left <= begun) {
-                    depth = trie.sharedAt(start) + left;
-                    left = 0;
-                } else {
-                    left -= begun;
-                    start++;
+                    start = i;
+                    depth = trie.sharedAt(i) + left;
+                    isThere = true;
                 }
+                left -= begun;
             }
             end = trie.layerEnd(start, depth);
-            return left == 0;
+            return isThere;
         }
 
         int beginningBytes() {

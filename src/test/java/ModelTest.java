@@ -83,7 +83,7 @@ public final class ModelTest {
         for (int i = 0; i < items; i++) {
             String key = anyKey();
             int kind = chance(20);
-            boolean takes = style == 0 ? kind < 5 : style == 1 ? kind < 10 : kind < 1;
+            boolean takes = style == 0 ? kind < 5 : style == 1 ? kind < 10 : style == 2 ? kind < 15 : kind < 1;
             String item = takes ? "-" + key : kind == 19 ? "~" + key + "," + anyKey() : "+" + key + "=" + number();
             if (items > 19) {
                 item = "+" + key.substring(0, 1) + "=1";
@@ -290,7 +290,7 @@ public final class ModelTest {
     private void rare() {
         switch (chance(6)) {
             case 0:
-                if (chance(6) == 0) {
+                if (chance(8) == 0) {
                     int w = chance(10);
                     int r = chance(8) + 1;
                     is("begin(" + w + ", " + r + ")", trie.begin(w, r), model.begin(w, r));
@@ -303,7 +303,7 @@ public final class ModelTest {
                 is("undo()", trie.undo() ? 1 : 0, model.undo() ? 1 : 0);
                 break;
             case 3:
-                if (model.found(0) < 20 || chance(8) == 0) {
+                if (model.found(0) < 20 && model.found(0) * 3 < model.values.size() || chance(12) == 0) {
                     is("takeFound()", trie.takeFound(), model.takeFound());
                 }
                 break;
@@ -315,10 +315,38 @@ public final class ModelTest {
         }
     }
 
+    /** Many keys come at first, so that layers of many pages and a full index are met. */
+    private void fill() {
+        int wanted = chance(3) == 0 ? 160 : 40 + chance(100);
+        for (int turn = 0; turn < 16 && model.values.size() < wanted; turn++) {
+            StringBuilder text = new StringBuilder();
+            for (int i = 0; i < 20; i++) {
+                StringBuilder key = new StringBuilder(anyKey());
+                key.setLength(Math.min(key.length(), 5 + chance(3)));
+                while (model.values.containsKey(key.toString()) && key.length() < 7) {
+                    key.append(signs.charAt(chance(signs.length())));
+                }
+                String item = "+" + key + "=" + chance(10);
+                if (text.length() + item.length() < 200) {
+                    text.append(i == 0 ? "" : ";").append(item);
+                }
+            }
+            int n = told(text.toString());
+            is("orders(" + n + ")", trie.orders(n), model.orders(n));
+        }
+    }
+
     private void go() {
         int w = run % 9 == 0 ? 4 : 1 + chance(8);
         int r = 2 + chance(7);
         is("begin(" + w + ", " + r + ")", trie.begin(w, r), model.begin(w, r));
+        if (style >= 2) {
+            fill();
+        }
+        for (int c = 0; c < 4 && !due.isWrong(); c++) {
+            int n = told(anyKey());
+            is("cursor(" + c + ", " + n + ")", trie.cursor(c, n), model.cursor(c, n));
+        }
         // some 18 calls at most come of one turn; what is left keeps the object below its 512th
         while (left > 20 && !due.isWrong()) {
             int kind = chance(24);
