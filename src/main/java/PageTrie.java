@@ -1409,12 +1409,15 @@ public final class PageTrie {
 
         /** Whether the entry of key i begins a page in its layer of that depth. */
         private boolean isPageStart(int i, int depth) {
-            return i <= 0 || sharedAt(i) < depth || sharedAt(i) == depth && opensAt(i);
+            if (i <= 0 || i >= keys.size || i >= MOST_KEYS) {
+                return true;
+            }
+            return shared[i] < depth || shared[i] == depth && opens[i];
         }
 
         /** Whether the entry of key i, its last one there, ends a page in its layer of that depth. */
         private boolean isPageEnd(int i, int depth) {
-            return i + 1 >= keys.size || isPageStart(i + 1, depth);
+            return isPageStart(i + 1, depth);
         }
 
         /** The first key of the page in which the entry of key i lies, in its layer of that depth. */
