@@ -1373,10 +1373,7 @@ public final class PageTrie {
             if (!keys.has(at) || !keys.has(at + 1)) {
                 return;
             }
-            if (at == 0) {
-                shared[at + 1] = 0;
-                opens[at + 1] = true;
-            } else if (shared[at] == shared[at + 1]) {
+            if (shared[at] == shared[at + 1]) {
                 opens[at + 1] = opens[at] || opens[at + 1];
             } else if (shared[at] < shared[at + 1]) {
                 shared[at + 1] = shared[at];
