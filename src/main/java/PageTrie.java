@@ -628,7 +628,7 @@ public final class PageTrie {
 
         void readKey(Key key) {
             key.clear();
-            while (fault == 0 && at < end && isKeyByte(sign())) {
+            for (int i = 0; i <= KEY_BYTES && fault == 0 && isKeyByte(sign()); i++) {
                 if (key.add(sign())) {
                     at++;
                 } else {
@@ -642,17 +642,16 @@ public final class PageTrie {
 
         int readNumber() {
             int number = 0;
-            int digits = 0;
-            while (fault == 0 && at < end && isDigit(sign())) {
-                if (digits < MOST_DIGITS) {
+            int first = at;
+            for (int i = 0; i <= MOST_DIGITS && fault == 0 && isDigit(sign()); i++) {
+                if (i < MOST_DIGITS) {
                     number = number * 10 + sign() - '0';
-                    digits++;
                     at++;
                 } else {
                     blameHere(FAULT_DIGITS);
                 }
             }
-            if (digits == 0) {
+            if (at == first) {
                 blameHere(FAULT_SIGN);
             }
             return number;

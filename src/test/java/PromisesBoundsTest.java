@@ -61,6 +61,10 @@ public final class PromisesBoundsTest extends Calls {
         is("its first bytes, too", put(x, "", 1), -1);
         is("four", x.put(4, 1), -3);
         is("those", x.key(0, -1) * 1000 + x.key(0, 3), 4097);
+        says("16: CURSORS are not told");
+        PageTrie fresh = new PageTrie();
+        is("each", fresh.step(0, true) + fresh.step(1, true) + fresh.step(2, false) + fresh.step(3, false), -16);
+        is("each", fresh.cursorIs(0, 1) + fresh.cursorIs(1, 1) + fresh.cursorIs(2, 1) + fresh.cursorIs(3, 1), -4);
         says("2: the highest of each int first");
         x.feed(0x21222324, 0x25262728, 0x7a797877, 0x76757473, 0x2a2b2d2e);
         is("twenty", x.put(20, 2), -3);
@@ -225,6 +229,13 @@ public final class PromisesBoundsTest extends Calls {
         is("0", value(x, "aa"), 0);
         is("longer ones are not there", value(x, "aaa"), -3);
         is("no KEY", value(x, "a="), -2);
+        says("9: one that is longer has been there, or has been told");
+        PageTrie w = with(4, 4, "+c=2");
+        is("the longer one", put(w, "abzz", 3), -3);
+        is("a beginning", put(w, "ab", 3) * 10 + w.count(0), -27);
+        is("not one of like first BYTES", value(w, "abz") + value(w, "abzzz") + value(w, "aba"), -9);
+        is("between both", w.rank(told(w, "aba")) * 10 + w.alike(0, 1), 12);
+        is("a beginning and what is beside it", w.alike(0, 0) * 10 + w.closest(0), 22);
         says("10: How many KEYS are ahead of it (whether it is there or not)");
         PageTrie y = forty("+b=1;+bb=2;+d=3");
         noneToldAs("rank", y::rank);
@@ -517,6 +528,7 @@ public final class PromisesBoundsTest extends Calls {
         is("not so many", y.foundAt(150), -4);
         query(y, "");
         is("VALUES together", y.found(1) * 1000 + y.found(4), 150300);
+        is("of 150", y.found(2) * 100 + y.found(3) * 10 + y.found(5), 111);
     }
 
     private static void foundTaken() {
@@ -528,6 +540,9 @@ public final class PromisesBoundsTest extends Calls {
         is("none left to it", x.takeFound(), 0);
         is("all", x.query(0) * 10 + x.takeFound(), 11);
         is("of none", x.takeFound() + x.count(0), 0);
+        PageTrie all = full();
+        query(all, "r");
+        is("all 150, backward", all.takeFound() * 10 + all.count(0), 1500);
         PageTrie y = with(4, 4, "+a=1;+b=1;+c=1;+d=1;+e=1");
         query(y, "r");
         cursor(y, 1, "c");
@@ -642,6 +657,9 @@ public final class PromisesBoundsTest extends Calls {
         is("all went", y.unlike(0) * 100 + y.unlike(1) * 10 + y.unlike(2), 30);
         y.keep();
         put(y, "z", 1);
+        PageTrie z = with(4, 4, "+a=1");
+        is("told behind a longer one", put(z, "czz", 1) + take(z, "czz") + put(z, "c", 1) + put(z, "ca", 2), -8);
+        is("all three are like those KEPT", z.keep() * 100 + z.unlike(0) * 10 + z.unlike(1), 300);
         is("behind a KEPT one without KEYS", y.unlike(0) * 100 + y.unlike(1) * 10 + y.unlike(2), 100);
     }
 
@@ -678,10 +696,7 @@ public final class PromisesBoundsTest extends Calls {
         is("FAR, NEAR, LOST", z.cursorIs(0, 2) * 100 + z.cursorIs(0, 1) * 10 + z.cursorIs(0, 3), 211);
         z.keep();
         for (int c = 0; c < 4; c++) {
-            cursor(z, c, "a" + c);
-            z.step(c, true);
-            z.step(c, true);
-            z.step(c, true);
+            cursor(z, c, "a");
         }
         is("UNDONE", z.undo(), true);
         for (int c = 0; c < 3; c++) {

@@ -7,7 +7,7 @@ public final class RefusedTest extends Calls {
     private static final String FULL = "full: ";
 
     /** KEYS in LAYERS and PAGES, all COUNTERS above 0, two CURSORS, a QUERY; what was KEPT is unlike all that. */
-    private static PageTrie scene() {
+    static PageTrie scene() {
         PageTrie x = new PageTrie();
         x.begin(2, 4);
         orders(x, "+k=1;+kk=2");
@@ -32,12 +32,12 @@ public final class RefusedTest extends Calls {
     }
 
     /** All that can be asked, but for the tape. */
-    private static String state(PageTrie x) {
+    static String state(PageTrie x) {
         StringBuilder state = new StringBuilder();
         for (int what = 0; what < 15; what++) {
             add(state, x.count(what));
         }
-        for (int i = 0; i < x.count(0) && i < 12; i++) {
+        for (int i = 0; i < x.count(0) && i < 8; i++) {
             for (int k = -3; k < 4; k++) {
                 add(state, x.key(i, k));
             }
