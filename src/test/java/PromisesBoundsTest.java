@@ -704,6 +704,17 @@ public final class PromisesBoundsTest extends Calls {
             is("its counts", z.cursorIs(c, 2) * 100 + z.cursorIs(c, 1) * 10 + z.cursorIs(c, 3), 211);
         }
         is("one that was not told", z.cursorIs(3, 0), -1);
+        says("30: 150 KEYS");
+        PageTrie f = full();
+        f.keep();
+        f.takeFound();
+        orders(f, "+zzz=5;+zzy=6");
+        is("UNDONE", f.undo(), true);
+        is("the last one", f.key(149, 0) * 1000 + f.key(149, 1), 120074);
+        is("the last but one, and no more", f.key(148, 1) * 10 + f.key(150, 1), 729);
+        is("all went in a batch", batch(f, "~!,};+zzz=1;-zzy"), -5);
+        is("the last one", f.key(149, 0) * 1000 + f.key(149, 1), 120074);
+        is("each is there", value(f, "aA") + value(f, "dT") + value(f, "gA") + value(f, "xJ"), 4);
         says("30: the QUERY");
         query(z, "t2;pb");
         z.keep();
